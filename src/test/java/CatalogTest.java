@@ -177,7 +177,9 @@ public final class CatalogTest {
         check.due("4 the row was emptied", desk.form(0, 99), 0);
         check.due("4 many", desk.many(1), 100);
         check.due("4 the last", desk.constructorOf(1, 99), 99);
-        check.due("4 none behind", desk.about(100, 0), NONE);
+        for (int what = 0; what < 8; what++) {
+            check.due("4 none behind", desk.about(100, what), NONE);
+        }
         check.due("4 solve with the last", desk.solve(), 0);
         check.due("4 meant the last", desk.meant(0), 99);
     }

@@ -1,11 +1,14 @@
+import java.io.IOException;
 import java.lang.reflect.Constructor;
 import java.lang.reflect.Field;
 import java.lang.reflect.Method;
 import java.lang.reflect.Modifier;
+import java.nio.file.Files;
+import java.nio.file.Path;
 import java.util.Set;
 import java.util.TreeSet;
 
-/** The public face, and what LANGUAGE.md says of members (rules 1, 2, 5 and 11). */
+/** The public face, and what LANGUAGE.md says of members and words (rules 1, 2, 5, 6 and 11). */
 public final class FaceTest {
     private static final Set<String> FACE = Set.of(
         "int type()", "boolean put(int)", "int constructor(int,int)", "int predicate()", "void clause()",
@@ -14,12 +17,13 @@ public final class FaceTest {
         "int constructorOf(int,int)", "int find(int,int,int)");
     private static final Check check = new Check("FaceTest");
 
-    public static void main(String[] args) {
+    public static void main(String[] args) throws IOException {
         check.due("the class is public and final", KindDesk.class.getModifiers(), Modifier.PUBLIC | Modifier.FINAL);
         methods();
         fields();
         constructors();
         classesInside();
+        words();
         check.end();
     }
 
@@ -75,6 +79,17 @@ public final class FaceTest {
                 check.due(method + " bears no public name", publicNames.contains(method.getName()), false);
                 check.due(method + " has few parameters", method.getParameterCount() <= 7, true);
             }
+        }
+    }
+
+    private static void words() throws IOException {
+        String source = Files.readString(Path.of("src/main/java/KindDesk.java"));
+        String code = source.replaceAll("(?s)/\\*.*?\\*/", " ").replaceAll("//[^\n]*", " ");
+        for (String word : new String[] {"throw", "throws", "try", "catch", "synchronized", "assert", "package"}) {
+            check.due("the word " + word, code.matches("(?s).*\\b" + word + "\\b.*"), false);
+        }
+        for (String sign : new String[] {"->", "::", "[][]", "\""}) {
+            check.due("the sign " + sign, code.contains(sign), false);
         }
     }
 }

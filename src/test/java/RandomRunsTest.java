@@ -1,8 +1,16 @@
 import java.util.Random;
 
-/** All promises: runs of calls, always the same ones, on a desk and on the model of the document. */
+/**
+ * All promises: runs of calls, always the same ones, on a desk and on the model of the document. A run
+ * keeps to the 512 calls of an object that the document promises answers for.
+ */
 public final class RandomRunsTest {
-    private static final int RUNS = 3000;
+    private static final int RUNS = 8000;
+    private static final int MOST_CALLS = 512;
+    // A SOLVING with the questions behind it is the dearest step, some 33 calls.
+    private static final int DEAREST_STEP = 40;
+    private static final int BEFORE_THE_CLAUSE = 150;
+    private static final int BEFORE_THE_PLANTED_ARE_SOLVED = 300;
     private static final int[] EDGES = {
         Integer.MIN_VALUE, Integer.MIN_VALUE + 1, -2, -1, 0, 1, 3, 4, 5, 6, 7, 23, 24, 59, 60, 79, 80, 99, 100,
         199, 200, Integer.MAX_VALUE - 1, Integer.MAX_VALUE};
@@ -15,6 +23,8 @@ public final class RandomRunsTest {
     private final int names;
     private final int variables;
     private final int wildness;
+    private final boolean planted;
+    private int calls = 0;
     private static final int[] faults = new int[4];
     private static int mostRounds = 0;
 
@@ -24,6 +34,7 @@ public final class RandomRunsTest {
         names = 1 + random.nextInt(4);
         variables = 2 + random.nextInt(run % 5 == 0 ? 79 : 12);
         wildness = run % 3 == 0 ? 12 : 150;
+        planted = run % 2 == 0;
     }
 
     public static void main(String[] args) {
@@ -43,22 +54,24 @@ public final class RandomRunsTest {
             both("type", desk.type(), model.type());
         }
         int before = 20 + random.nextInt(30);
-        for (int i = 0; i < before; i++) {
+        for (int i = 0; i < before && calls < BEFORE_THE_CLAUSE; i++) {
             grow();
         }
-        for (int call = 0; call < 100; call++) {
-            step();
+        if (planted) {
+            plant();
+        } else {
+            while (calls <= MOST_CALLS - DEAREST_STEP) {
+                step();
+            }
         }
-        desk.clause();
-        model.clause();
-        planted();
+        check.due("a run's calls beyond 512", Math.max(0, calls - MOST_CALLS), 0);
     }
 
     /**
      * DEMANDS that agree with TYPES thought of before: without a CLASH the SOLVING goes on for many
      * ROUNDS. What tells the TYPES comes last, so that the FORMS wait.
      */
-    private void planted() {
+    private void plant() {
         int[] plan = new int[variables];
         for (int x = 0; x < variables; x++) {
             plan[x] = random.nextInt(types);
@@ -68,33 +81,34 @@ public final class RandomRunsTest {
             constructors += model.many(type);
         }
         int forms = constructors == 0 ? 0 : random.nextInt(40);
-        for (int i = 0; i < forms; i++) {
+        for (int i = 0; i < forms && calls < BEFORE_THE_PLANTED_ARE_SOLVED; i++) {
             plantForm(random.nextInt(constructors), plan);
         }
         solve();
         for (int i = 0; i < 4; i++) {
-            int x = random.nextInt(variables);
-            int y = random.nextInt(variables);
-            if (plan[x] == plan[y]) {
-                both("same", desk.same(x, y), model.same(x, y));
-            }
-            desk.put(plan[x]);
-            model.put(plan[x]);
-            int predicate = model.predicate();
-            both("predicate", desk.predicate(), predicate);
-            desk.put(x);
-            model.put(x);
-            both("call", desk.call(predicate), model.call(predicate));
+            tellOne(plan);
             solve();
         }
+    }
+
+    private void tellOne(int[] plan) {
+        int x = random.nextInt(variables);
+        int y = random.nextInt(variables);
+        if (plan[x] == plan[y]) {
+            both("same", desk.same(x, y), model.same(x, y));
+        }
+        put(plan[x]);
+        int predicate = model.predicate();
+        both("predicate", desk.predicate(), predicate);
+        put(x);
+        both("call", desk.call(predicate), model.call(predicate));
     }
 
     private void plantForm(int constructor, int[] plan) {
         int x = planned(model.about(constructor, 0), plan);
         int fields = model.about(constructor, 2);
         for (int k = 0; k < fields; k++) {
-            int y = planned(model.about(constructor, 3 + k), plan);
-            both("put", desk.put(y) ? 1 : 0, model.put(y));
+            put(planned(model.about(constructor, 3 + k), plan));
         }
         int name = model.about(constructor, 1);
         both("form", desk.form(x, name), model.form(x, name));
@@ -113,7 +127,12 @@ public final class RandomRunsTest {
     }
 
     private void both(String call, int got, int want) {
+        calls++;
         check.due(call, got, want);
+    }
+
+    private void put(int n) {
+        both("put", desk.put(n) ? 1 : 0, model.put(n));
     }
 
     private int pick(int end) {
@@ -122,8 +141,7 @@ public final class RandomRunsTest {
 
     private void putSome(int count, int end) {
         for (int i = 0; i < count; i++) {
-            int n = pick(end);
-            both("put", desk.put(n) ? 1 : 0, model.put(n));
+            put(pick(end));
         }
     }
 
@@ -150,7 +168,7 @@ public final class RandomRunsTest {
             case 2 -> {
                 if (random.nextInt(3) == 0) {
                     desk.clause();
-                    model.clause();
+                    both("clause", 0, model.clause());
                 }
             }
             case 3 -> {
@@ -184,14 +202,16 @@ public final class RandomRunsTest {
         if (fault >= 0 && fault < 4) {
             faults[fault]++;
         }
-        mostRounds = Math.max(mostRounds, desk.told(1));
         for (int what = -1; what < 3; what++) {
             both("told", desk.told(what), model.told(what));
         }
-        for (int x = -1; x <= 80; x++) {
+        mostRounds = Math.max(mostRounds, model.told(1));
+        for (int i = 0; i < 16; i++) {
+            int x = pick(variables);
             both("typeOf", desk.typeOf(x), model.typeOf(x));
         }
-        for (int demand = -1; demand < 40; demand++) {
+        for (int i = 0; i < 10; i++) {
+            int demand = pick(40);
             both("meant", desk.meant(demand), model.meant(demand));
         }
     }

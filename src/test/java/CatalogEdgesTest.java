@@ -37,6 +37,7 @@ public final class CatalogEdgesTest {
         promise17TheFirstAndTheLast();
         promise17NoneSuch();
         promise18NoneSuch();
+        promise18NoneForAll();
         promise18EveryCount();
         check.end();
     }
@@ -360,6 +361,14 @@ public final class CatalogEdgesTest {
         }
         desk.find(INT, 0, 0, NONE).find(1, 199, 4, NONE).find(2, 0, 0, NONE).find(1, 0, 4, NONE)
             .find(2, 199, 3, NONE).find(1, 0, 0, 0).find(2, 199, 4, 1);
+    }
+
+    /** NONE is no TYPE, no NAME and no count, so asking for it thrice finds nothing. */
+    private static void promise18NoneForAll() {
+        desk("18 NONE for TYPE, NAME and count").find(NONE, NONE, NONE, NONE).find(INT, NONE, NONE, NONE).types(1)
+            .constructor(1, 0, 0).find(NONE, NONE, NONE, NONE).find(1, NONE, NONE, NONE).find(NONE, 0, 0, NONE)
+            .row(0).constructor(1, 0, 1).row(9, 9).constructor(1, 1, NONE).find(NONE, NONE, NONE, NONE)
+            .find(1, 1, 2, NONE).find(NONE, 1, 2, NONE);
     }
 
     private static void promise18EveryCount() {

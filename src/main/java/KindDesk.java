@@ -385,6 +385,7 @@ public final class KindDesk {
     /** The GROUPS of one SOLVING. */
     private static final class Groups {
         // A GROUP is known by one of its variables; joining renames, so no chain is ever followed.
+        // That number is an index too, so it is looked at wherever it is used as one.
         private final int[] groups = new int[VARIABLES];
         private final int[] groupKinds = new int[VARIABLES];
         private int changes = 0;
@@ -398,11 +399,11 @@ public final class KindDesk {
         }
 
         private int kindOf(int x) {
-            return isVariable(x) ? groupKinds[groups[x]] : NONE;
+            return isVariable(x) && isVariable(groups[x]) ? groupKinds[groups[x]] : NONE;
         }
 
         private boolean allows(int x, int kind) {
-            if (!isVariable(x)) {
+            if (!isVariable(x) || !isVariable(groups[x])) {
                 return false;
             }
             int now = groupKinds[groups[x]];
@@ -411,7 +412,7 @@ public final class KindDesk {
 
         /** x GETS a TYPE; false is a CLASH. */
         private boolean give(int x, int kind) {
-            if (!isVariable(x)) {
+            if (!isVariable(x) || !isVariable(groups[x])) {
                 return false;
             }
             int group = groups[x];
@@ -429,6 +430,9 @@ public final class KindDesk {
             }
             int kept = groups[x];
             int gone = groups[y];
+            if (!isVariable(kept) || !isVariable(gone)) {
+                return false;
+            }
             if (kept == gone) {
                 return true;
             }
